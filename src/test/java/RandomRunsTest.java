@@ -37,10 +37,38 @@ public final class RandomRunsTest {
     }
 
     private int go() {
+        if (run % 2 == 0) {
+            lens();
+        }
         for (int k = 0; k < 400 && wrong == 0; k++) {
             step();
         }
         return wrong;
+    }
+
+    /** A lens to begin with, so that merits are finite and there is something to improve. */
+    private void lens() {
+        int size = 2 + random.nextInt(5);
+        for (int i = 0; i < size; i++) {
+            call = "surface(0)";
+            same(real.surface(0), ref.surface(0));
+            double c = i == size - 1 ? 0.0 : (random.nextInt(81) - 40) / 1000.0;
+            double k = random.nextInt(3) == 0 ? (random.nextInt(31) - 15) / 10.0 : 0.0;
+            double t = i == size - 1 ? 0.0 : i == size - 2 ? 40.0 : 1.0 + random.nextInt(12) * 0.5;
+            double[] numbers = {c, k, t, 5 + random.nextInt(8)};
+            for (int what = 0; what < 4; what++) {
+                long bits = Double.doubleToRawLongBits(numbers[what]);
+                call = "put(0, " + i + ", " + what + ", " + bits + ")";
+                same(one(real.put(0, i, what, bits)), one(ref.put(0, i, what, bits)));
+            }
+            int g = i >= size - 2 ? -1 : random.nextInt(4) - 1;
+            boolean mirror = random.nextInt(12) == 0;
+            call = "behind(0, " + i + ", " + g + ", " + mirror + ")";
+            same(one(real.behind(0, i, g, mirror)), one(ref.behind(0, i, g, mirror)));
+        }
+        for (int r = 0; r < 2; r++) {
+            aim(r);
+        }
     }
 
     private void same(long got, long due) {
