@@ -646,7 +646,11 @@ public final class LensBench {
             }
             double part = v;
             double scaling = 1.0;
-            if (v < 1.0 || v >= 4.0) {
+            // Most roots of a ray are of numbers a little below 1: they need not be taken apart.
+            if (v >= 0.25 && v < 1.0) {
+                part = v * 4.0;
+                scaling = 0.5;
+            } else if (v < 0.25 || v >= 4.0) {
                 takeApart(v);
                 int e = exponent + 52;
                 int odd = e & 1;
