@@ -34,12 +34,14 @@ public final class NanTest {
         List<String> call = new ArrayList<>(List.of("-nowarn", "-d", made.toString()));
         call.add(made.resolve("LensBench.java").toString());
         call.add(made.resolve("NanWatch.java").toString());
-        for (String name : new String[] {"RandomRunsTest", "RefBench", "PromisesTest", "NumbersTest", "GreatNumbersTest"}) {
+        for (String name : new String[] {"RandomRunsTest", "RefBench", "PromisesTest", "NumbersTest", "GreatNumbersTest", "Due", "Benches",
+            "TermsTest", "BoundariesTest", "EdgesTest"}) {
             call.add("src/test/java/" + name + ".java");
         }
         int built = ToolProvider.getSystemJavaCompiler().run(null, null, null, call.toArray(new String[0]));
         int failed = built;
-        String[][] runs = {{"RandomRunsTest", "900", "5000"}, {"PromisesTest"}, {"NumbersTest"}, {"GreatNumbersTest"}};
+        String[][] runs = {{"RandomRunsTest", "900", "5000"}, {"PromisesTest"}, {"NumbersTest"}, {"GreatNumbersTest"},
+            {"TermsTest"}, {"BoundariesTest"}, {"EdgesTest"}};
         for (int i = 0; i < runs.length && failed == 0; i++) {
             failed = run(made, runs[i]);
         }
