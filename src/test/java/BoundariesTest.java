@@ -15,12 +15,19 @@ public final class BoundariesTest {
         latestTrace();
         latestRows();
         latestSpot();
+        cutAtTheFirst();
+        oneSurface();
+        everyNumberVaried();
+        everyNumberBorne();
+        everyNumberSolved();
         solveAtTheTurn();
+        solveWhereItRises();
         solveByHalves();
         solveInTheFull();
         reverseEmptyAndFull();
         wishesOfTo();
         scaleOfNumbers();
+        scaleByAnotherE();
         scaleOfTheFull();
         joinUpToSixteen();
         joinOntoItself();
@@ -151,6 +158,146 @@ public final class BoundariesTest {
         DUE.is("still", b.spotted(3), bits(Math.sqrt(12.5)));
     }
 
+    private static void cutAtTheFirst() {
+        DUE.by("18: i from 0 on how many were CUT at SURFACE i");
+        LensBench b = new LensBench();
+        Benches.add(b, 0, AIR, false, 0.25, 0, 0, 10);
+        DUE.is("4 of 12 meet a sphere of 4", b.spot(0, 0, 4), 4);
+        DUE.is("MISSED at the first", b.cut(0), 8);
+        DUE.is("RAYS", b.cut(-1), 12);
+        b.put(0, 0, 0, 0L);
+        Benches.aim(b, 1, 0, 0, 0, 1, 0, 0);
+        DUE.is("along a plane", b.spot(0, 1, 4), 0);
+        DUE.is("all MISSED", b.cut(0), 12);
+        DUE.is("none there", b.cut(1), 0);
+        DUE.is("none spotted", b.spotted(0), -1);
+    }
+
+    private static void oneSurface() {
+        DUE.by("one SURFACE is enough");
+        LensBench b = new LensBench();
+        Benches.add(b, 0, 0, false, 0.25);
+        b.want(0, 0, 0, 1, 1, 14);
+        b.vary(0, 0, 0, 0, 1000);
+        b.tolerance(0, 0, 0, -125000);
+        DUE.is("FOCAL: 3 / c", b.paraxial(0, 588, 0), bits(12));
+        DUE.is("BACK", b.paraxial(0, 588, 1), bits(12));
+        DUE.is("a row", b.row(0, 2), bits(1.5));
+        DUE.is("spot", b.spot(0, 0, 1), 1);
+        DUE.is("trace", b.trace(0, 0), 0);
+        DUE.is("MERIT", b.merit(0), bits(4));
+        DUE.is("EFFECT", b.effect(0, 0), bits(96));
+        DUE.is("WORST", b.worst(0), 0);
+        DUE.is("its MERIT", b.worstMerit(), bits(100));
+        DUE.is("improve: 0.375 and 0.125 are worse", b.improve(0, 1), 0);
+        DUE.is("solve", b.solve(0, 0, 0, 125, 500, 588, 6000), 1);
+        DUE.is("reverse: no air behind", b.reverse(0, 1), false);
+        DUE.is("scale", b.scale(0, 1, 1), true);
+        DUE.is("join", b.join(0, 1, 2, 0L), true);
+        DUE.is("differ", b.differ(0, 2), -1 + (b.count(2, 0) == 2 ? 2 : 0));
+    }
+
+    /** Four SURFACES, all of whose numbers but the last t play a part in the MERIT. */
+    private static LensBench thick() {
+        LensBench b = new LensBench();
+        Benches.add(b, 0, 0, false, 0.03, 0.5, 3, 20);
+        Benches.add(b, 0, 1, false, -0.02, -0.5, 2, 20);
+        Benches.add(b, 0, AIR, false, 0.01, 1.5, 30, 20);
+        Benches.add(b, 0, AIR, false, 0.002, -2, 0, 40);
+        for (int line = 0; line < 12; line++) {
+            b.glass(1, line, 17000000);
+        }
+        Benches.aim(b, 1, 0, 0, 0, 0.1, -0.2, Math.sqrt(0.95));
+        b.put(0, 0, 3, bits(6));
+        b.want(0, 2, 1, 4, 100, 0);
+        b.want(0, 0, 0, 1, 1, 40);
+        return b;
+    }
+
+    private static double meritWith(LensBench b, int i, int what, double number) {
+        if (!b.put(0, i, what, bits(number))) {
+            throw new IllegalStateException("the test is wrong");
+        }
+        return Benches.number(b.merit(0));
+    }
+
+    private static void everyNumberVaried() {
+        DUE.by("21, 22: the number what (0 to 2) of a SURFACE, and no other");
+        for (int i = 0; i < 4; i++) {
+            for (int what = 0; what < 3; what++) {
+                LensBench b = thick();
+                LensBench twin = thick();
+                int middle = (int) Math.round(1000 * Benches.number(b.get(0, i, what)));
+                DUE.is("vary", b.vary(0, i, what, middle - 8, middle + 8), 1);
+                double step = ((middle + 8) / 1000.0 - (middle - 8) / 1000.0) * 0.125;
+                double x = Benches.number(b.get(0, i, what));
+                double now = Benches.number(twin.merit(0));
+                double due = x;
+                if (meritWith(twin, i, what, x + step) < now) {
+                    due = x + step;
+                } else if (meritWith(twin, i, what, x - step) < now) {
+                    due = x - step;
+                }
+                DUE.is("improve " + i + ", " + what, b.improve(0, 1), due == x ? 0 : 1);
+                DUE.is("it moves, but for the last t", due != x, i < 3 || what < 2);
+                twin.put(0, i, what, bits(due));
+                b.scale(0, 7, 0);
+                twin.scale(0, 7, 0);
+                DUE.is("the number", b.get(0, i, what), bits(due));
+                for (int k = 0; k < 16; k++) {
+                    DUE.is("all the others", b.get(7, k / 4, k % 4), twin.get(7, k / 4, k % 4));
+                }
+                DUE.is("STEP", b.step(0, 0), bits(due == x ? step * 0.5 : step));
+            }
+        }
+    }
+
+    private static void everyNumberBorne() {
+        DUE.by("24, 25, 26: a SURFACE, a number of it (0 to 2), by how much");
+        for (int i = 0; i < 4; i++) {
+            for (int what = 0; what < 3; what++) {
+                LensBench b = thick();
+                LensBench twin = thick();
+                int by = what == 0 ? -700 : 90000;
+                DUE.is("tolerance", b.tolerance(0, i, what, by), 1);
+                double x = Benches.number(b.get(0, i, what));
+                double now = Benches.number(twin.merit(0));
+                double more = meritWith(twin, i, what, x + by / 1000000.0);
+                double less = meritWith(twin, i, what, x - by / 1000000.0);
+                DUE.is("effect " + i + ", " + what, b.effect(0, 0), bits(more - now));
+                DUE.is("it has one, but for the last t", more != now, i < 3 || what < 2);
+                DUE.is("worst", b.worst(0), less > more ? 1 : 0);
+                DUE.is("its MERIT", b.worstMerit(), bits(Math.max(more, less)));
+                DUE.is("the number is as it was", b.get(0, i, what), bits(x));
+            }
+        }
+    }
+
+    private static void everyNumberSolved() {
+        DUE.by("28: The number what (0 to 2) of a SURFACE, and no other");
+        for (int i = 0; i < 4; i++) {
+            for (int what = 0; what < 3; what += 2) {
+                LensBench b = thick();
+                LensBench was = thick();
+                double back = Benches.number(b.paraxial(0, 600, 1));
+                int goal = (int) Math.floor(1000 * back);
+                int middle = (int) Math.round(1000 * Benches.number(b.get(0, i, what)));
+                int off = what == 0 ? 2 : 200;
+                // From air to air, the last one plays no part.
+                boolean plays = i < 3;
+                DUE.is("solve " + i + ", " + what, b.solve(0, i, what, middle - off, middle + off, 600, goal), plays ? 1 : 0);
+                if (plays) {
+                    DUE.is("BACK", Math.abs(Benches.number(b.paraxial(0, 600, 1)) - goal / 1000.0) < 1e-9, true);
+                }
+                for (int k = 0; k < 16; k++) {
+                    if (k != 4 * i + what) {
+                        DUE.is("all the others", b.get(0, k / 4, k % 4), was.get(0, k / 4, k % 4));
+                    }
+                }
+            }
+        }
+    }
+
     private static double backOf(double t) {
         double u = (1.0 * 0.0 - 1.0 * (0.02 * (1.5 - 1.0))) / 1.5;
         double y = 1.0 + t * u;
@@ -181,6 +328,34 @@ public final class BoundariesTest {
         DUE.is("low goes up to high", b.get(0, 0, 1), bits(10));
         DUE.is("the least goal", b.solve(0, 0, 2, 0, 20000, 588, Integer.MIN_VALUE), 0);
         DUE.is("the greatest goal", b.solve(0, 0, 2, 0, 20000, 588, Integer.MAX_VALUE), 0);
+    }
+
+    private static double risingBack(double c) {
+        double u = (1.0 * 0.0 - 1.0 * (c * (0.75 - 1.0))) / 0.75;
+        return 0.0 - 1.0 / u;
+    }
+
+    private static void solveWhereItRises() {
+        DUE.by("28: one not above 0, the other not below 0; else 0 (BACK is -3 / c: it rises)");
+        int[][] goals = {{-8001, 0}, {-8000, 1}, {-7999, 1}, {-4001, 1}, {-4000, 1}, {-3999, 0}};
+        for (int[] goal : goals) {
+            LensBench b = new LensBench();
+            Benches.add(b, 0, 0, false, 0.5);
+            b.glass(0, 5, 7500000);
+            double low = 0.375;
+            double high = 0.75;
+            boolean above = risingBack(low) - goal[0] / 1000.0 > 0;
+            for (int k = 0; k < 60; k++) {
+                double middle = low + (high - low) * 0.5;
+                if ((risingBack(middle) - goal[0] / 1000.0 > 0) == above) {
+                    low = middle;
+                } else {
+                    high = middle;
+                }
+            }
+            DUE.is("BACK from -8 to -4, goal " + goal[0], b.solve(0, 0, 0, 375, 750, 588, goal[0]), goal[1]);
+            DUE.is("c", b.get(0, 0, 0), goal[1] == 0 ? bits(0.5) : bits(low + (high - low) * 0.5));
+        }
     }
 
     private static void solveByHalves() {
@@ -322,6 +497,20 @@ public final class BoundariesTest {
         DUE.is("k", b.get(1, 0, 1), bits(-10));
         DUE.is("by 2^-20", b.scale(0, 1, -20), true);
         DUE.is("k", b.get(1, 0, 1), bits(-10));
+    }
+
+    private static void scaleByAnotherE() {
+        DUE.by("30: False: another e (though all numbers could be so)");
+        for (int e : new int[] {-20, 20, -21, 21, -22, 22, 31, 32, 33, 64, 1000, -32, -64, Integer.MIN_VALUE, Integer.MAX_VALUE}) {
+            LensBench b = new LensBench();
+            Benches.add(b, 0, AIR, false, 0, 3, 0, Math.scalb(1.0, -100));
+            stack(b, 1, 2);
+            boolean can = e >= -20 && e <= 20;
+            DUE.is("by 2^" + e, b.scale(0, 1, e), can);
+            DUE.is("how many", b.count(1, 0), can ? 1 : 2);
+            DUE.is("of the empty one by 2^" + e, b.scale(5, 1, e), can);
+            DUE.is("how many", b.count(1, 0), can ? 0 : 2);
+        }
     }
 
     private static void scaleOfTheFull() {

@@ -320,6 +320,7 @@ public final class EdgesTest {
         refused("22: NONE: a VARIABLE's number is below its bounds", b -> b.put(0, 0, 0, Benches.bits(Math.nextDown(-0.005))), b -> b.improve(0, 3), -1);
         refused("25: -1: one of both is not finite", b -> b.want(0, 2, 3, 1, 0, 0), b -> b.effect(0, 0), -1);
         refused("25: -1: the other of both is not finite", EdgesTest::bearPlanes, b -> b.effect(0, 1), -1);
+        refused("25: -1: the MERIT is not finite, but with by it is", EdgesTest::flattenBearing, b -> b.effect(1, 1), -1);
         refused("28: else 0 (the number stays)", b -> { }, b -> b.solve(0, 0, 2, 1000, 2000, 588, GREATEST), 0);
         refused("28: If a BACK is NONE on the way, 0", b -> b.put(0, 1, 0, 0L), b -> b.solve(0, 0, 0, -10, 10, 588, 0), 0);
         refused("28: If a BACK is NONE on the way (at low), 0", b -> b.put(0, 1, 0, 0L), b -> b.solve(0, 0, 0, 0, 10, 588, 0), 0);
@@ -343,6 +344,12 @@ public final class EdgesTest {
     private static void flatten(LensBench b) {
         b.put(1, 0, 0, 0L);
         b.put(1, 1, 0, 0L);
+    }
+
+    /** SYSTEM 1 becomes planes alone, and with its TOLERANCE 1 a lens again. */
+    private static void flattenBearing(LensBench b) {
+        flatten(b);
+        b.tolerance(1, 0, 0, 20000);
     }
 
     /** With its TOLERANCE 1 SYSTEM 0 is planes alone. */

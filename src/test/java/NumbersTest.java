@@ -170,6 +170,15 @@ public final class NumbersTest {
                 System.out.println("isBeyond at " + t[2]);
             }
         }
+        // Where squares are below the normal ones: 3, 4, 5 times a number of 26 bits.
+        for (int i = 0; i < 2000; i++) {
+            double m = Math.scalb((double) ((1 << 25) + RANDOM.nextInt(1 << 25)), -540 - 25 - i % 20);
+            if (SUM.isBeyond(3 * m, 4 * m, 5 * m) || !SUM.isBeyond(3 * m, Math.nextUp(4 * m), 5 * m)
+                || !SUM.isBeyond(-Math.nextUp(3 * m), 4 * m, 5 * m)) {
+                wrong++;
+                System.out.println("isBeyond at 3, 4, 5 times " + m);
+            }
+        }
         if (!SUM.isBeyond(Double.MAX_VALUE, 0, 1000.0) || !SUM.isBeyond(0, -Double.MAX_VALUE, Double.MIN_VALUE)) {
             wrong++;
             System.out.println("isBeyond of great ones");

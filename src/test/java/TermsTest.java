@@ -27,6 +27,8 @@ public final class TermsTest {
         slopeOfNought();
         lost();
         outcomesWithTheirSurface();
+        yAsX();
+        bundlesTurned();
         focalAndBackNone();
         bundleOfEachSize();
         bundleOfTinyHeight();
@@ -34,6 +36,7 @@ public final class TermsTest {
         partsAtTheirEnds();
         meritNotThere();
         improvingAtBounds();
+        improvingFirstUp();
         improvingOfEqualMerits();
         halvedToNothing();
         effectsOutOfRange();
@@ -394,6 +397,61 @@ public final class TermsTest {
         }
     }
 
+    /** Glass, a MIRROR and a plane, with a RAY of these numbers; x and y can change places, and their signs. */
+    private static LensBench folded(double... numbers) {
+        LensBench b = single(0, false, 0.04, 0.5, 3, 20);
+        Benches.add(b, 0, AIR, true, -0.03, -2, -2, 20);
+        Benches.add(b, 0, AIR, false, 0.05, 1, -30, 20);
+        Benches.add(b, 0, AIR, false, 0, 0, 0, 20);
+        return aimed(b, numbers);
+    }
+
+    private static void yAsX() {
+        DUE.by("IV: so y and L; so L and v");
+        double m = Math.sqrt(1 - 0.01 - 0.04);
+        LensBench one = folded(3, -1.5, -5, 0.1, 0.2, m);
+        LensBench turned = folded(-1.5, 3, -5, 0.2, 0.1, m);
+        LensBench less = folded(-3, -1.5, -5, -0.1, 0.2, m);
+        DUE.is("trace", one.trace(0, 0), 0);
+        DUE.is("with x and y turned", turned.trace(0, 0), 0);
+        DUE.is("with -x", less.trace(0, 0), 0);
+        int[] others = {1, 0, 2, 4, 3, 5, 6};
+        for (int i = 0; i < 4; i++) {
+            for (int what = 0; what < 7; what++) {
+                DUE.is("at(" + i + ", " + what + ")", turned.at(i, others[what]), one.at(i, what));
+                long sign = what == 0 || what == 3 ? Long.MIN_VALUE : 0;
+                DUE.is("at(" + i + ", " + what + ") with -x", less.at(i, what), one.at(i, what) ^ sign);
+            }
+        }
+    }
+
+    /** Whichever corner of the BUNDLE goes farthest, first or last: it is found. */
+    private static void bundlesTurned() {
+        DUE.by("VI: Y likewise; GREATEST, S the greatest a a + b b");
+        double m = Math.sqrt(1 - 0.01 - 0.04);
+        LensBench one = folded(0, 0, 0, 0.1, 0.2, m);
+        one.put(0, 0, 3, bits(4));
+        DUE.is("spot", one.spot(0, 0, 2), 4);
+        for (int signs = 0; signs < 4; signs++) {
+            double k = (signs & 1) == 0 ? 0.1 : -0.1;
+            double l = (signs & 2) == 0 ? 0.2 : -0.2;
+            LensBench b = folded(0, 0, 0, k, l, m);
+            LensBench turned = folded(0, 0, 0, l, k, m);
+            b.put(0, 0, 3, bits(4));
+            turned.put(0, 0, 3, bits(4));
+            DUE.is("spot", b.spot(0, 0, 2), 4);
+            DUE.is("spot", turned.spot(0, 0, 2), 4);
+            DUE.is("X", b.spotted(0), one.spotted(0) ^ ((signs & 1) == 0 ? 0 : Long.MIN_VALUE));
+            DUE.is("Y", b.spotted(1), one.spotted(1) ^ ((signs & 2) == 0 ? 0 : Long.MIN_VALUE));
+            DUE.is("X and Y turned", turned.spotted(0), b.spotted(1));
+            DUE.is("X and Y turned", turned.spotted(1), b.spotted(0));
+            for (int what = 2; what < 4; what++) {
+                DUE.is("spotted(" + what + ")", b.spotted(what), one.spotted(what));
+                DUE.is("spotted(" + what + ")", turned.spotted(what), one.spotted(what));
+            }
+        }
+    }
+
     private static void focalAndBackNone() {
         DUE.by("V: infinite, or no number, as it comes: NONE then");
         LensBench b = single(0, false);
@@ -601,6 +659,26 @@ public final class TermsTest {
             DUE.is("t stays", b.get(0, 0, 2), bits(bound[0]));
             DUE.is("STEP", b.step(0, 0), bits(bound[1] == 0 ? Math.scalb(2.0, -10) : 2));
         }
+    }
+
+    private static void improvingFirstUp() {
+        DUE.by("VII: a = x + STEP is tried, else a = x - STEP");
+        // Two lenses of 100 have no FOCAL 200 apart, and a great one near there: on either side it is less.
+        LensBench b = single(0, false, 0.02);
+        Benches.add(b, 0, AIR, false, 0, 0, 200.0625);
+        Benches.add(b, 0, 0, false, 0.02);
+        Benches.add(b, 0, AIR, false);
+        b.want(0, 0, 0, 1, 1, 0);
+        b.vary(0, 1, 2, 196000, 204000);
+        double now = Benches.number(b.merit(0));
+        b.put(0, 1, 2, bits(201.0625));
+        DUE.is("less above", Benches.number(b.merit(0)) < now, true);
+        b.put(0, 1, 2, bits(199.0625));
+        DUE.is("less below", Benches.number(b.merit(0)) < now, true);
+        b.put(0, 1, 2, bits(200.0625));
+        DUE.is("improve", b.improve(0, 1), 1);
+        DUE.is("t", b.get(0, 1, 2), bits(201.0625));
+        DUE.is("STEP", b.step(0, 0), bits(1));
     }
 
     private static void improvingOfEqualMerits() {
